@@ -189,6 +189,8 @@ final class IfTest {
         Checks.noIndex("person 3", () -> house.write(3));
         Checks.noIndex("person -1", () -> house.write(-1));
         Checks.same("still", Checks.octets(house), "bobby 0");
+        Checks.same("one", Checks.written(Checks.house("cash 1;child a;"), 0), "a 1 i:1");
+        Checks.same("one of a gift", Checks.written(Checks.house("cash 1;child a;sum 1 to a;"), 0), "a 1 0:1");
         WillHouse many = Checks.house("child abcdef;cash 99999;thing a 9999;" + "sum 1 to abcdef;".repeat(12));
         Checks.same("many", Checks.written(many, 0), "abcdef 109998 0:1 1:1 2:1 3:1 4:1 5:1 6:1 7:1 8:1 9:1 10:1 11:1 i:109986");
     }

@@ -14,6 +14,7 @@ final class TakesTest {
         heir();
         ranked();
         wrongNumbers();
+        fullHouse();
         Checks.close("TakesTest");
     }
 
@@ -195,6 +196,49 @@ final class TakesTest {
         Checks.same("ahead", house.ranked(-1), -1);
         Checks.same("far ahead", house.ranked(Integer.MIN_VALUE), -1);
         Checks.same("far behind", house.ranked(Integer.MAX_VALUE), -1);
+    }
+
+    /** As many THINGS, PERSONS, GIFTS as there may be. */
+    private static void fullHouse() {
+        String letters = "abcdefghijkl";
+        StringBuilder text = new StringBuilder("cash 40;");
+        for (int i = 0; i < 8; i++) {
+            text.append("thing ").append(letters.charAt(i)).append(" 2;");
+        }
+        for (int i = 0; i < 12; i++) {
+            text.append("child ").append(letters.charAt(i)).append(';');
+        }
+        for (int i = 0; i < 12; i++) {
+            text.append("sum 4 to ").append(letters.charAt(i)).append(';');
+        }
+        WillHouse house = Checks.house(text.toString());
+        int[] counts = {8, 12, 12, 40, 0, 0, 5, 0, 12, 8, 0, 12, 0, 0, 0};
+        for (int what = 0; what < counts.length; what++) {
+            Checks.same("count " + what, house.count(what), counts[what]);
+        }
+        Checks.same("the rest of 56", house.estate(3), 8);
+        heirs(house, 0, 1, 2, 3, 4, 5, 6, 7, 8, 9, 10, 11);
+        for (int person = 0; person < 12; person++) {
+            Checks.same("sum", house.takes(person, person), 4);
+            Checks.same("intestate", house.taken(person, 1), person < 8 ? 1 : 0);
+            Checks.same("in all", house.taken(person, 0), person < 8 ? 5 : 4);
+            Checks.same("of others", house.taken(person, 2), 0);
+            Checks.same("ranked", house.ranked(person), person);
+            Checks.same("not adeemed", house.gift(person, 6), 0);
+            Checks.same("gets", house.gets(person, -1), 4);
+            stocks(house, person, person);
+        }
+        Checks.same("ranked", house.ranked(12), -1);
+        Checks.same("envied", house.envied(11), 0);
+        Checks.same("written", house.write(11), 8);
+        Checks.same("classed", house.classed(4, 1), 48);
+        Checks.same("classed", house.classed(4, 2), 12);
+        Checks.same("needed", house.needed(4), 32);
+        Checks.same("least debt", house.leastDebt(4), 9);
+        house.die(0);
+        // 56 less 44 is 12: to 11 heirs
+        Checks.same("intestate", house.taken(1, 1), 2);
+        Checks.same("intestate", house.taken(11, 1), 1);
     }
 
     private static void wrongNumbers() {

@@ -9,6 +9,8 @@ final class TextTest {
         endCuts();
         readAnswers();
         readReplaces();
+        whatWasGivenIsFree();
+        bytesBehindTheEnd();
         wrongReadChangesNothing();
         latestNumbersCount();
         faultsOfWords();
@@ -123,10 +125,49 @@ final class TextTest {
         Checks.same("not kin", house.person(1, 2), 0);
         Checks.same("a friend", house.person(0, 1), 0);
         Checks.same("not renounced", house.gift(0, 5), 0);
-        Checks.feed(house, "thing e 1;friend d;from e 1 to d;");
-        Checks.same("what was given is free for the next text", house.read(), 1);
-        Checks.feed(house, "thing e 1;friend d;give e to d;");
-        Checks.same("what was a fund is free for the next text", house.read(), 1);
+    }
+
+    private static void whatWasGivenIsFree() {
+        String give = "thing e 1;friend d;give e to d;";
+        String from = "thing e 1;friend d;from e 1 to d;";
+        WillHouse house = new WillHouse();
+        for (String text : new String[] {give, give, from, from, give, give}) {
+            Checks.feed(house, text);
+            Checks.same("read of " + text, house.read(), 1);
+        }
+        for (String text : new String[] {give, from, give, from}) {
+            Checks.feed(house, text + "x");
+            Checks.noArgument("read of a wrong text", house::read);
+            Checks.same("fault", house.fault(), text.length());
+            Checks.feed(house, text);
+            Checks.same("read of " + text, house.read(), 1);
+        }
+    }
+
+    /** Bytes behind the TAPE's end are no part of THE TEXT. */
+    private static void bytesBehindTheEnd() {
+        String[] texts = {"child a|;", "child a|b;", "cash 5|;", "cash 5|6;", "cash |5;", "rest|;", "child a;sum 5 to a|;",
+            "child a;sum 5 to a| rank 2;", "child a;sum 5 to a |rank 2;", "child a;| x"};
+        for (String text : texts) {
+            WillHouse house = new WillHouse();
+            Checks.feed(house, text.replace("|", ""));
+            int end = text.indexOf('|');
+            Checks.yes("end", house.end(end));
+            if (text.endsWith("x")) {
+                Checks.same("read of " + text, house.read(), 0);
+                continue;
+            }
+            Checks.noArgument("read of " + text, house::read);
+            Checks.same("fault of " + text, house.fault(), end);
+        }
+        // the longest text, and the longest that ends too early
+        String most = "sum 1 to a;".repeat(11);
+        Checks.right("child a;" + most + " ".repeat(271));
+        Checks.wrongAt("child a;" + most + " ".repeat(266) + "child^");
+        Checks.wrongAt("child a;" + most + " ".repeat(264) + "child b^");
+        Checks.wrongAt("child a;" + most + " ".repeat(265) + "cash 5^");
+        Checks.wrongAt("child a;" + most + " ".repeat(261) + "sum 1 to a^");
+        Checks.wrongAt("child a;" + most + " ".repeat(261) + "sum 1 to  ^");
     }
 
     private static void wrongReadChangesNothing() {
@@ -232,6 +273,9 @@ final class TextTest {
         Checks.wrongAt("thing a 5;changed a ^10000;");
         Checks.wrongAt("thing a 5;lost a insured ^10000;");
         Checks.wrongAt("cash 1^:");
+        Checks.wrongAt("cash ^;");
+        Checks.wrongAt("cash^;");
+        Checks.wrongAt("thing a 5;lost a insured ^;");
         Checks.wrongAt("cash ^/");
     }
 
@@ -338,7 +382,8 @@ final class TextTest {
         Checks.right("cash 99999;thing a 5;sold a 5 owed 5;");
         Checks.right("cash 90000;thing a 5;sold a 9999 owed 0;");
         Checks.right("child a;dead a;issue b of a;sum 9999 to a rank 4;dead b;");
-        Checks.right("months 0;rate 0;months 240;rate 99;rule worth;");
+        Checks.right("debt 0;cash 0;months 0;rate 0;months 240;rate 99;rule worth;");
+        Checks.right("child hash;child bead;child gate;child im;child ro;child mum;child wold;");
         Checks.right("child worths;child thin;child rulew;");
         Checks.right("child a;" + " ".repeat(392));
     }
