@@ -982,7 +982,7 @@ public final class WillHouse {
         }
 
         private void skipBlanks() {
-            while (at < length && isBlank(text[at])) {
+            while (at < length && (text[at] == ' ' || text[at] == '\n' || text[at] == '\t')) {
                 at++;
             }
         }
@@ -1021,10 +1021,6 @@ public final class WillHouse {
 
         private static boolean isDigit(byte sign) {
             return sign >= '0' && sign <= '9';
-        }
-
-        private static boolean isBlank(byte sign) {
-            return sign == 9 || sign == 10 || sign == 32;
         }
     }
 

@@ -15,6 +15,7 @@ final class TakesTest {
         ranked();
         wrongNumbers();
         fullHouse();
+        fullStock();
         Checks.close("TakesTest");
     }
 
@@ -239,6 +240,31 @@ final class TakesTest {
         // 56 less 44 is 12: to 11 heirs
         Checks.same("intestate", house.taken(1, 1), 2);
         Checks.same("intestate", house.taken(11, 1), 1);
+    }
+
+    /** Twelve GIFTS of which each PASSES to eleven. */
+    private static void fullStock() {
+        StringBuilder text = new StringBuilder("cash 25;child a;");
+        for (char name = 'b'; name <= 'l'; name++) {
+            text.append("issue ").append(name).append(" of a;");
+        }
+        text.append("rest 1 to a;".repeat(12)).append("dead a;");
+        WillHouse house = Checks.house(text.toString());
+        // 3 of the first, 2 of each other
+        int[] due = {0, 12, 12, 1, 0, 0, 0, 0, 0, 0, 0, 0};
+        for (int person = 0; person < 12; person++) {
+            Checks.same("taken by " + person, house.taken(person, 0), due[person]);
+            Checks.same("of others by " + person, house.taken(person, 2), due[person]);
+            Checks.same("stock", house.stock(0, person), person < 11 ? person + 1 : -1);
+        }
+        house.set(0, 11 * 12 * 10);
+        for (int person = 1; person < 12; person++) {
+            Checks.same("taken by " + person, house.taken(person, 0), 120);
+        }
+        house.set(0, 36 + 11);
+        for (int gift = 0; gift < 12; gift++) {
+            Checks.same("the rest", house.gets(gift, 6), gift < 11 ? 4 : 3);
+        }
     }
 
     private static void wrongNumbers() {
