@@ -1317,9 +1317,17 @@ public final class WillHouse {
         }
 
         int dueOfAll(int kind) {
+            return sumOfGifts(due, kind);
+        }
+
+        int gotByAll(int kind) {
+            return sumOfGifts(gets, kind);
+        }
+
+        private int sumOfGifts(int[][] rows, int kind) {
             int sum = 0;
             for (int gift = 0; gift < will.gifts; gift++) {
-                sum += due[gift][kind];
+                sum += rows[gift][kind];
             }
             return sum;
         }
@@ -1328,14 +1336,6 @@ public final class WillHouse {
             int sum = 0;
             for (int kind = 0; kind <= last; kind++) {
                 sum += dueOfAll(kind);
-            }
-            return sum;
-        }
-
-        int gotByAll(int kind) {
-            int sum = 0;
-            for (int gift = 0; gift < will.gifts; gift++) {
-                sum += gets[gift][kind];
             }
             return sum;
         }
