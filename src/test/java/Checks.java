@@ -1,5 +1,7 @@
 import java.nio.charset.StandardCharsets;
 import java.util.Arrays;
+import java.util.function.IntConsumer;
+import java.util.function.IntUnaryOperator;
 
 /** What all tests share: houses made of texts, and counted checks. */
 final class Checks {
@@ -124,8 +126,57 @@ final class Checks {
         return text.toString();
     }
 
-    static String repeat(String line, int times) {
-        return line.repeat(times);
+    /** A line for each of the first names a, b, c .., which stand for # in it. */
+    static String each(String line, int times) {
+        StringBuilder lines = new StringBuilder();
+        for (int i = 0; i < times; i++) {
+            lines.append(line.replace('#', (char) ('a' + i)));
+        }
+        return lines.toString();
+    }
+
+    /** All numbers that are none of 0 to the last: next to them, and far away. */
+    static int[] outside(int last) {
+        return new int[] {-1, last + 1, -2, last + 2, 1 << 16, 1 << 30, Integer.MAX_VALUE, Integer.MIN_VALUE};
+    }
+
+    static void noIndexOutside(String what, int last, IntConsumer call) {
+        for (int i : outside(last)) {
+            noIndex(what + " " + i, () -> call.accept(i));
+        }
+    }
+
+    static void noElementOutside(String what, int last, IntConsumer call) {
+        for (int i : outside(last)) {
+            noElement(what + " " + i, () -> call.accept(i));
+        }
+    }
+
+    static void noArgumentOutside(String what, int last, IntConsumer call) {
+        for (int i : outside(last)) {
+            noArgument(what + " " + i, () -> call.accept(i));
+        }
+    }
+
+    static void noneOutside(String what, int last, IntUnaryOperator call) {
+        for (int i : outside(last)) {
+            same(what + " " + i, call.applyAsInt(i), WillHouse.NONE);
+        }
+    }
+
+    /** Each answer of a row of them, told by its number. */
+    static void row(String what, IntUnaryOperator call, int... due) {
+        for (int i = 0; i < due.length; i++) {
+            same(what + " " + i, call.applyAsInt(i), due[i]);
+        }
+    }
+
+    static int made() {
+        return passed + failed;
+    }
+
+    static int failed() {
+        return failed;
     }
 
     static void close(String test) {
