@@ -401,6 +401,8 @@ final class ClassSentencesTest {
         Checks.no(what + " changes something", Answers.of(house).equals(Answers.of(small())));
         house = small();
         act.accept(house);
+        // what was reckoned in between is not told behind it
+        house.taken(0, 0);
         Checks.same("undo of " + what, house.undo(), 0);
         Checks.same("after undo of " + what, Answers.of(house), Answers.of(small()));
     }
@@ -431,6 +433,7 @@ final class ClassSentencesTest {
         Checks.same("of nothing", Checks.written(house, 0), "abcdef 0");
         house.set(0, 1);
         Checks.same("of 1", Checks.written(house, 0), "abcdef 1 i:1");
+        Checks.same("of both", Checks.written(Checks.house("cash 12;child a;sum 5 to a;sum 4 to a;"), 0), "a 12 0:5 1:4 i:3");
         WillHouse great = Checks.house("child a;cash 99999;", Checks.each("thing # 9999;", 8));
         Checks.same("of the most", Checks.written(great, 0), "a 179991 i:179991");
     }

@@ -179,6 +179,7 @@ final class IfSentencesTest {
         house.die(0);
         // d for a takes 30, and all that is b's were b dead
         Checks.same("of d", house.envied(3), 1);
+        Checks.same("of c, whom no death changes, the first that lives", house.envied(2), 1);
         Checks.same("of one who is dead the first that lives", house.envied(0), 1);
         WillHouse alike = Checks.house("cash 9;child a;child b;child c;");
         Checks.row("3 each; of several the first", alike::envied, 1, 0, 0);
@@ -243,42 +244,60 @@ final class IfSentencesTest {
                 "cash 99999;");
     }
 
-    private static void count(int what, int empty, int full) {
+    /** A house of which each count is another number. */
+    private static WillHouse mixed() {
+        WillHouse house = Checks.house(Checks.each("thing # 9;", 6), "cash 41;debt 42;months 43;rate 44;rule worth;",
+                "child pppppp;child q;child r;child s;", "friend t;friend u;friend v;friend w;friend x;friend y;",
+                "sum 1 to pppppp;sum 1 to t;sum 1 to t;sum 1 to s;", "sum 1 to q;sum 1 to q;", "sum 1 to r;".repeat(3),
+                "dead s;dead t;dead u;lost a insured 0;lost b insured 0;");
+        house.renounce(4, true);
+        house.renounce(5, true);
+        for (int act = 3; act <= 11; act++) {
+            house.set(1, 42);
+        }
+        // "pppppp 11 0:2 i:9"
+        house.write(0);
+        return house;
+    }
+
+    private static void count(int what, int empty, int mixed, int full) {
         Checks.same("count " + what + " of an empty house", new WillHouse().count(what), empty);
+        Checks.same("count " + what + " of a house", mixed().count(what), mixed);
         Checks.same("count " + what + " of a full house", full().count(what), full);
     }
 
     @Sentence(of = "Promise 39", says = "0 THINGS,")
     static void countThings() {
-        count(0, 0, 8);
+        count(0, 0, 6, 8);
     }
 
     @Sentence(of = "Promise 39", says = "1 PERSONS,")
     static void countPersons() {
-        count(1, 0, 12);
+        count(1, 0, 10, 12);
     }
 
     @Sentence(of = "Promise 39", says = "2 GIFTS,")
     static void countGifts() {
-        count(2, 0, 12);
+        count(2, 0, 9, 12);
     }
 
     @Sentence(of = "Promise 39", says = "3 cash,")
     static void countCash() {
-        count(3, 0, 99999);
+        count(3, 0, 41, 99999);
     }
 
     @Sentence(of = "Promise 39", says = "4 debt,")
     static void countDebt() {
-        count(4, 0, 0);
+        count(4, 0, 42, 0);
         WillHouse house = full();
         house.set(1, 99999);
         Checks.same("debt", house.count(4), 99999);
+        Checks.same("above all that is there", Checks.house("debt 99999;").count(4), 99999);
     }
 
     @Sentence(of = "Promise 39", says = "5 months,")
     static void countMonths() {
-        count(5, 0, 0);
+        count(5, 0, 43, 0);
         WillHouse house = full();
         house.set(2, 240);
         Checks.same("months", house.count(5), 240);
@@ -286,7 +305,7 @@ final class IfSentencesTest {
 
     @Sentence(of = "Promise 39", says = "6 rate,")
     static void countRate() {
-        count(6, 5, 5);
+        count(6, 5, 44, 5);
         WillHouse house = full();
         house.set(3, 99);
         Checks.same("rate", house.count(6), 99);
@@ -296,7 +315,7 @@ final class IfSentencesTest {
 
     @Sentence(of = "Promise 39", says = "7 RULE (1 WORTH, 0),")
     static void countRule() {
-        count(7, 0, 0);
+        count(7, 0, 1, 0);
         WillHouse house = full();
         house.set(4, 1);
         Checks.same("worth", house.count(7), 1);
@@ -306,7 +325,7 @@ final class IfSentencesTest {
 
     @Sentence(of = "Promise 39", says = "8 PERSONS that live,")
     static void countLiving() {
-        count(8, 0, 12);
+        count(8, 0, 7, 12);
         WillHouse house = full();
         for (int person = 0; person < 12; person++) {
             house.die(person);
@@ -316,7 +335,7 @@ final class IfSentencesTest {
 
     @Sentence(of = "Promise 39", says = "9 THINGS that are HELD,")
     static void countHeld() {
-        count(9, 0, 8);
+        count(9, 0, 4, 8);
         WillHouse house = full();
         for (int thing = 0; thing < 8; thing += 2) {
             house.sell(thing, 1, 1);
@@ -327,7 +346,7 @@ final class IfSentencesTest {
 
     @Sentence(of = "Promise 39", says = "10 GIFTS that LAPSE,")
     static void countLapsed() {
-        count(10, 0, 0);
+        count(10, 0, 5, 0);
         WillHouse house = full();
         house.die(0);
         Checks.same("two of a", house.count(10), 2);
@@ -341,7 +360,7 @@ final class IfSentencesTest {
 
     @Sentence(of = "Promise 39", says = "11 HEIRS,")
     static void countHeirs() {
-        count(11, 0, 12);
+        count(11, 0, 3, 12);
         WillHouse house = full();
         house.die(11);
         Checks.same("one less", house.count(11), 11);
@@ -349,7 +368,7 @@ final class IfSentencesTest {
 
     @Sentence(of = "Promise 39", says = "12 ACTS that can be undone,")
     static void countActs() {
-        count(12, 0, 0);
+        count(12, 0, 11, 0);
         WillHouse house = full();
         for (int act = 1; act <= 18; act++) {
             house.set(1, act);
@@ -361,7 +380,7 @@ final class IfSentencesTest {
 
     @Sentence(of = "Promise 39", says = "13 bytes WRITTEN,")
     static void countBytes() {
-        count(13, 0, 0);
+        count(13, 0, 17, 0);
         WillHouse house = full();
         house.write(11);
         Checks.same("l and what it takes of intestate", house.count(13), "l 8338 i:8338".length());
@@ -374,7 +393,7 @@ final class IfSentencesTest {
 
     @Sentence(of = "Promise 39", says = "14 GIFTS that are RENOUNCED.")
     static void countRenounced() {
-        count(14, 0, 0);
+        count(14, 0, 2, 0);
         WillHouse house = full();
         house.die(0);
         Checks.same("those that lapse are not", house.count(14), 0);

@@ -1,17 +1,27 @@
 import java.lang.management.ManagementFactory;
 
-/** The room that calls take: rows are made once, so the dearest calls make next to nothing. */
+/** The room of a run: of the dearest calls as many as an object is used for make less than all calls of a run may make. */
 final class RoomTest {
     private static final int CALLS = 512;
-    // a StringBuilder's letters and an exception now and then, far below the 600,000 objects of a run
-    private static final long MOST_BYTES_A_CALL = 400;
-    private static final long MOST_BYTES_A_HOUSE = 40_000;
+    // 7.3 million fields and elements of four bytes
+    private static final long MOST_BYTES = 29_200_000;
 
     public static void main(String[] args) {
-        dearCalls();
+        Checks.yes("some bytes are made", bytesMade() > 0);
+        run("envied", house -> house.envied(2));
+        run("ranked", house -> house.ranked(11));
+        run("write", house -> house.write(2));
+        run("leastDebt", house -> house.leastDebt(4));
+        run("needed", house -> house.needed(4));
+        run("ifHeld", house -> house.ifHeld(0));
+        run("set", house -> house.set(0, 5));
         reads();
-        houses();
+        wrongReads();
         Checks.close("RoomTest");
+    }
+
+    private interface Call {
+        int of(WillHouse house);
     }
 
     private static long bytesMade() {
@@ -19,54 +29,49 @@ final class RoomTest {
                 .getThreadAllocatedBytes(Thread.currentThread().getId());
     }
 
-    private static void bytes(String what, long before, long times, long most) {
-        long each = (bytesMade() - before) / times;
-        Checks.yes(what + " made " + each + " bytes, at most " + most, each <= most);
+    private static void few(String what, long before) {
+        long made = bytesMade() - before;
+        Checks.yes("a run of " + what + " made " + made + " bytes, at most " + MOST_BYTES, made <= MOST_BYTES);
     }
 
-    private static WillHouse full() {
-        return Checks.house("thing t 99;cash 9999;months 24;child a;child b;issue c of a;issue d of a;issue e of b;",
+    private static void run(String what, Call call) {
+        long before = bytesMade();
+        WillHouse house = Checks.house("thing t 99;cash 9999;months 24;child a;child b;issue c of a;issue d of a;issue e of b;",
                 "issue f of b;issue g of c;issue h of c;issue i of d;issue j of d;issue k of e;issue l of e;dead a;",
                 "give t to a;sum 99 to b;sum 9 to c;sum 9 to a;sum 9 to a;sum 9 to a;sum 9 to a;sum 9 to a;rest 1 to a;");
+        for (int calls = 22; calls < CALLS; calls++) {
+            call.of(house);
+        }
+        few(what, before);
     }
 
-    private static void dearCalls() {
-        WillHouse house = full();
-        house.envied(2);
-        house.write(2);
-        long before = bytesMade();
-        for (int i = 0; i < CALLS; i++) {
-            house.envied(2);
+    /** "child a ; child b ; " and so on, filling the TAPE. */
+    private static void feedAll(WillHouse house, int lastFour) {
+        house.feed(0x6368696c, 0x64206120, 0x3b206368, 0x696c6420, 0x62203b20);
+        for (int times = 1; times < 20; times++) {
+            house.feed(0x20202020, 0x20202020, 0x20202020, 0x20202020, times < 19 ? 0x20202020 : lastFour);
         }
-        bytes("envied", before, CALLS, MOST_BYTES_A_CALL);
-        before = bytesMade();
-        for (int i = 0; i < CALLS; i++) {
-            house.set(0, i);
-            house.write(2);
-            house.undo();
-        }
-        bytes("write", before, CALLS, MOST_BYTES_A_CALL);
     }
 
     private static void reads() {
-        WillHouse house = new WillHouse();
-        house.read();
         long before = bytesMade();
-        for (int i = 0; i < CALLS; i++) {
-            // "child a ; child b ; "
-            house.feed(0x6368696c, 0x64206120, 0x3b206368, 0x696c6420, 0x62203b20);
+        WillHouse house = new WillHouse();
+        for (int calls = 21; calls < CALLS; calls += 21) {
+            feedAll(house, 0x20202020);
             house.read();
         }
-        bytes("read", before, CALLS, MOST_BYTES_A_CALL);
+        few("read", before);
         Checks.same("persons", house.count(1), 2);
     }
 
-    private static void houses() {
-        WillHouse first = new WillHouse();
+    private static void wrongReads() {
         long before = bytesMade();
-        for (int i = 0; i < CALLS; i++) {
-            Checks.no("the same", new WillHouse().end(first.count(6)));
+        WillHouse house = new WillHouse();
+        for (int calls = 21; calls < CALLS; calls += 21) {
+            feedAll(house, 0x2020203f);
+            Checks.same("read", Answers.outcome(house::read), "throws java.lang.IllegalArgumentException");
         }
-        bytes("a house", before, CALLS, MOST_BYTES_A_HOUSE);
+        few("wrong read", before);
+        Checks.same("fault", house.fault(), 399);
     }
 }

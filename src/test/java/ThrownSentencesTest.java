@@ -58,9 +58,11 @@ final class ThrownSentencesTest {
     private static void changesNothing(String what, Consumer<WillHouse> call) {
         WillHouse house = small();
         house.set(1, 3);
+        house.write(0);
         house.feed(0, 0, 0, 0, 0);
         WillHouse same = small();
         same.set(1, 3);
+        same.write(0);
         Checks.same(what + " throws", Answers.outcome(() -> {
             call.accept(house);
             return 0;
