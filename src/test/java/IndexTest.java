@@ -107,7 +107,9 @@ final class IndexTest {
         StringBuilder table = new StringBuilder("# From each sentence to its test\n\n"
                 + "Each row tells words of `../shared/DOC.md` and the test (under `src/test/java`) that fails if they are broken; each\n"
                 + "such test tells its words by `@Sentence`. `IndexTest` checks that nothing of the document is left out, and that this\n"
-                + "file is as the tests have it; `java -cp build/own IndexTest write` writes it anew.\n");
+                + "file is as the tests have it; `java -cp build/own IndexTest write` writes it anew. `src/test/breaks/breaks.txt` tells\n"
+                + "for each test at least one way to break its words in the class, by which it fails. The public face is held by\n"
+                + "`FaceTest`.\n");
         for (Map.Entry<String, String> section : sections.entrySet()) {
             table.append("\n## ").append(section.getKey()).append("\n\n| sentence | test |\n| --- | --- |\n");
             tests.stream().filter(test -> sentence(test).of().equals(section.getKey()))

@@ -379,8 +379,9 @@ final class TextSentencesTest {
         Checks.wrongAt("thing t 9;thing u 9;child a;give t to a;give u to a;give ^t to a;");
         Checks.right("thing t 9;thing u 9;child a;give t to a;give u to a;");
         // a text that told it so does not bind the next ones
+        String first = "thing t 9;child a;give t to a;";
         String eighth = Checks.each("thing # 9;", 8) + "child a;give h to a;";
-        readsOneGift(eighth, eighth, eighth);
+        readsOneGift(first, eighth, first, eighth, eighth, first, first);
     }
 
     @Sentence(of = "Terms 1", says = "and then is no FUND (and the other way round).")
